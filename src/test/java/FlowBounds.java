@@ -184,11 +184,6 @@ public final class FlowBounds {
     }
 
     private static void refused() {
-        String two = """
-                settle(0, 1, 2, 1) = 2
-                line(0, 1, 2, 5) = -1
-                town(1, 3) = true
-                """;
         String bad = """
                 (2, 1, 2) = throws.IndexOutOfBoundsException
                 (-1, 1, 1) = throws.IndexOutOfBoundsException
@@ -200,8 +195,9 @@ public final class FlowBounds {
                 (0, 1, 1) = throws.IllegalArgumentException
                 (0, 2, 2) = throws.IllegalArgumentException
                 """;
-        Script.play("54: no map, no town, then from is to", two + bad.replace("(", "flow("));
+        String ofCut = bad.replace("(", "cut(");
+        Script.play("54: no map, no town, then from is to", Script.TWO_TOWNS + bad.replace("(", "flow("));
         Script.play("55: no map, no town, then from is to",
-                two + bad.replace("(", "cut(").replace(")", ", true)") + bad.replace("(", "cut(").replace(")", ", false)"));
+                Script.TWO_TOWNS + ofCut.replace(")", ", true)") + ofCut.replace(")", ", false)"));
     }
 }

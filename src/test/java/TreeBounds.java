@@ -91,26 +91,8 @@ public final class TreeBounds {
     }
 
     private static void treeWayRefused() {
-        String two = """
-                settle(0, 1, 2, 1) = 2
-                line(0, 1, 2, 5) = -1
-                town(1, 3) = true
-                """;
-        String[] calls = {"treeWay", "treeMost"};
-        for (String call : calls) {
-            String bad = """
-                    (2, 1, 2)
-                    (-1, 1, 2)
-                    (1, 1, 2)
-                    (0, 0, 2)
-                    (0, 3, 2)
-                    (0, 1, 0)
-                    (0, 1, 3)
-                    (0, 3, 3)
-                    """;
-            Script.play("50, 51: no map, no town from or to of it",
-                    two + bad.replace("(", call + "(").replace(")", ") = throws.IndexOutOfBoundsException"));
-        }
+        Script.playWithoutPlaces("50: no map, no town from or to of it", "treeWay");
+        Script.playWithoutPlaces("51: no map, no town from or to of it", "treeMost");
     }
 
     private static void keys() {

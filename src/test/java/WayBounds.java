@@ -260,29 +260,11 @@ public final class WayBounds {
     }
 
     private static void refused() {
-        String two = """
-                settle(0, 1, 2, 1) = 2
-                line(0, 1, 2, 5) = -1
-                town(1, 3) = true
-                """;
         String[] calls = {"hops", "hopWay", "near", "nearWay", "into"};
         for (String call : calls) {
-            String bad = """
-                    (2, 1, 2)
-                    (-1, 1, 2)
-                    (1, 1, 2)
-                    (0, 0, 2)
-                    (0, 3, 2)
-                    (0, 1, 0)
-                    (0, 1, 3)
-                    (0, 3, 3)
-                    (0, -1, 2)
-                    (0, 1, 100)
-                    """;
-            Script.play("43 to 48: no map, no town from or to of it",
-                    two + bad.replace("(", call + "(").replace(")", ") = throws.IndexOutOfBoundsException"));
+            Script.playWithoutPlaces("43 to 48: no map, no town from or to of it", call);
         }
-        Script.play("47: no map, no town of it", two + """
+        Script.play("47: no map, no town of it", Script.TWO_TOWNS + """
                 settled(2, 1) = throws.IndexOutOfBoundsException
                 settled(-1, 1) = throws.IndexOutOfBoundsException
                 settled(1, 1) = throws.IndexOutOfBoundsException

@@ -27,11 +27,35 @@ public final class Script {
     /** The like on map 1, directed: each line leads from a town to one of the next seven. */
     public static final String FULL_DIRECTED = "open(1, true) = 0\n" + FULL.replace("(0, ", "(1, ");
 
+    /** Map 0 has the towns 1 and 2 and a line between them, map 1 the town 3. */
+    public static final String TWO_TOWNS = """
+            settle(0, 1, 2, 1) = 2
+            line(0, 1, 2, 5) = -1
+            town(1, 3) = true
+            """;
+
     private Script() {
     }
 
     public static void play(String title, String lines) {
         playOn(title, lines, new Mapgraph(), new Model());
+    }
+
+    /** Of a call that takes a map and two towns of it: no such map, no town from, no town to. */
+    public static void playWithoutPlaces(String title, String call) {
+        String places = """
+                (2, 1, 2)
+                (-1, 1, 2)
+                (1, 1, 2)
+                (0, 0, 2)
+                (0, 3, 2)
+                (0, 1, 0)
+                (0, 1, 3)
+                (0, 3, 3)
+                (0, -1, 2)
+                (0, 1, 100)
+                """;
+        play(title, TWO_TOWNS + places.replace("(", call + "(").replace(")", ") = throws.IndexOutOfBoundsException"));
     }
 
     /** On two that are alike. */
