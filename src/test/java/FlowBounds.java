@@ -72,6 +72,11 @@ public final class FlowBounds {
                 flow(0, 40, 99) = 58000000000
                 cut(0, 99, 40, false) = "99"
                 """);
+        Script.play("54: of 400 lines the last ones carry, too", Script.FULL + """
+                flow(0, 59, 58) = 42
+                cut(0, 59, 58, false) = "59"
+                cut(0, 59, 58, true) = "59>0 59>1 59>2 59>3 59>4 59>5 59>53 59>54 59>55 59>56 59>57 59>58"
+                """);
         Script.play("54: directed, a line and one back, both as long as can be", """
                 open(0, true) = 0
                 settle(0, 0, 4, 1) = 4
