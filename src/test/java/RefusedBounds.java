@@ -1,28 +1,12 @@
 import java.lang.reflect.Method;
-import java.lang.reflect.Modifier;
 import java.util.Arrays;
 
 /**
- * The bounds of every argument of every promise. A FACE line is a method with its arguments: a map, a town of it, a number
- * with its bounds, or one that has none ("any"). Each argument is put outside its bounds, alone and with all that is
- * refused only after it: the exception that is named first is thrown, and nothing is changed. Then each is put on its
- * bounds, which is not refused.
+ * The bounds of every argument of every promise, as Face tells them. Each argument is put outside its bounds, alone and
+ * with all that is refused only after it: the exception that is named first is thrown, and nothing is changed. Then each
+ * is put on its bounds, which is not refused.
  */
 public final class RefusedBounds {
-    private static final String[] FACE = {
-        "open map any", "town map 0..99", "settle map 0..99 1..60 1..9", "raze map town", "keep map",
-        "line map town town 0..1000000000", "unline map town town", "ring map 1..59 0..1000000000 0..1000000000",
-        "fan map town 0..1000000000 0..1000000000", "lattice map 1..20 0..1000000000 0..1000000000",
-        "stretch map town -1000000000..1000000000", "prune map town 0..100 0..100", "turn map", "copy map", "join map",
-        "begin map town any", "step", "walk 1..60", "rowPut 0..99 any", "rowTake any", "rowLook any", "rowDrop 0..99",
-        "basket -9..99", "bid map 0..99 0..99", "bidTake", "bidDrop any", "build map", "knock", "ofMap map 0..10",
-        "ofTown map town 0..11", "sums map 0..1", "length map town town", "beside map town 0..99 0..3",
-        "window map town 0..100 0..100 0..3", "lines map town", "common 0..3", "ofWalk 0..5", "visited", "row any",
-        "bidLook 0..3", "bids", "hops map town town", "hopWay map town town", "near map town town",
-        "nearWay map town town", "settled map town", "into map town town", "treeLines map", "treeWay map town town",
-        "treeMost map town town", "keys map any", "odd map", "flow map town town", "cut map town town any", "isSound",
-        "digest",
-    };
     private static final String EMPTY = "";
     private static final String ORDINARY = """
             settle(0, 0, 5, 1) = 5
@@ -45,24 +29,18 @@ public final class RefusedBounds {
             """;
 
     public static void main(String[] args) {
-        faceIsWhole();
-        for (String line : FACE) {
+        tryAll(Face.ACTS);
+        tryAll(Face.ASKS);
+        Check.end();
+    }
+
+    private static void tryAll(String[] calls) {
+        for (String line : calls) {
             refuse("in an empty one", EMPTY, line);
             refuse("in an ordinary one", ORDINARY, line);
             refuse("in a full one", WHOLE, line);
             accept(line);
         }
-        Check.end();
-    }
-
-    private static void faceIsWhole() {
-        int many = 0;
-        for (Method method : Mapgraph.class.getDeclaredMethods()) {
-            if (Modifier.isPublic(method.getModifiers())) {
-                many++;
-            }
-        }
-        Check.due("methods of the face", many, FACE.length);
     }
 
     private static void refuse(String where, String setup, String line) {
@@ -101,16 +79,12 @@ public final class RefusedBounds {
                 arguments[i - 1] = isBad ? 100 : towns;
                 towns++;
             } else if (isBounded) {
-                arguments[i - 1] = isBad ? bound(kinds[i], 1) + 1 : bound(kinds[i], 0);
+                arguments[i - 1] = isBad ? Face.bound(kinds[i], 1) + 1 : Face.bound(kinds[i], 0);
             } else {
                 arguments[i - 1] = 0;
             }
         }
         return arguments;
-    }
-
-    private static int bound(String kind, int which) {
-        return Integer.parseInt(kind.split("\\.\\.")[which]);
     }
 
     private static int[] outside(String kind, boolean isEmpty) {
@@ -123,7 +97,7 @@ public final class RefusedBounds {
         if (kind.equals("any")) {
             return new int[0];
         }
-        return new int[] {bound(kind, 0) - 1, bound(kind, 1) + 1, Integer.MIN_VALUE, Integer.MAX_VALUE};
+        return new int[] {Face.bound(kind, 0) - 1, Face.bound(kind, 1) + 1, Integer.MIN_VALUE, Integer.MAX_VALUE};
     }
 
     /** Each time on new ones, as the call may change much. What is due the model tells: no exception. */
@@ -155,6 +129,6 @@ public final class RefusedBounds {
         if (kind.equals("town")) {
             return new int[] {2, 4};
         }
-        return kind.equals("any") ? new int[0] : new int[] {bound(kind, 0), bound(kind, 1)};
+        return kind.equals("any") ? new int[0] : new int[] {Face.bound(kind, 0), Face.bound(kind, 1)};
     }
 }

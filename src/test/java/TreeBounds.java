@@ -8,6 +8,7 @@ public final class TreeBounds {
         keyPlaces();
         odd();
         oddOrder();
+        oddWhicheverWay();
         depths();
         colours();
         noMap();
@@ -264,6 +265,33 @@ public final class TreeBounds {
                 line(0, 4, 2, 1) = -1
                 odd(0) = "3-2-4"
                 ofMap(0, 7) = 1
+                """);
+    }
+
+    private static void oddWhicheverWay() {
+        Script.play("53: in a directed map plain lines count, whichever way lines lead", """
+                open(1, true) = 0
+                settle(1, 1, 6, 1) = 6
+                line(1, 2, 1, 5) = -1
+                line(1, 3, 2, 5) = -1
+                line(1, 2, 4, 5) = -1
+                line(1, 5, 3, 5) = -1
+                line(1, 5, 4, 5) = -1
+                ofTown(1, 5, 6) = 3
+                ofTown(1, 5, 7) = 1
+                odd(1) = ""
+                line(1, 4, 3, 0) = -1
+                ofTown(1, 5, 7) = -1
+                odd(1) = "3-2-4"
+                ofMap(1, 7) = 1
+                line(1, 3, 4, 9) = -1
+                odd(1) = "3-2-4"
+                turn(1) = 7
+                odd(1) = "3-2-4"
+                unline(1, 3, 4) = 0
+                odd(1) = "3-2-4"
+                unline(1, 4, 3) = 9
+                odd(1) = ""
                 """);
     }
 

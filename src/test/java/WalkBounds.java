@@ -13,6 +13,7 @@ public final class WalkBounds {
         visited();
         row();
         longestRow();
+        longestRowOfAll();
         Check.end();
     }
 
@@ -511,5 +512,22 @@ public final class WalkBounds {
         calls.append("row(false) = \"99-98-99-97-98-99-96-97-98-99-95-96-97-98-99-94-95-96-97-98-99");
         calls.append("-93-94-95-96-97-98-99-92-93\"\n");
         Script.play("section 5: no bound is told for the row, so steps bring all", calls.toString());
+    }
+
+    /** 99 numbers are put in front of it, where a walk by depth never comes: no row can be longer. */
+    private static void longestRowOfAll() {
+        StringBuilder calls = new StringBuilder("open(0, true) = 0\nsettle(0, 0, 60, 1) = 60\nbegin(0, 0, true) = 0\n");
+        calls.append("99 times rowPut(5, true)\n");
+        for (int town = 0; town < 99; town++) {
+            calls.append("fan(0, ").append(town).append(", 1, 0)\n");
+            calls.append("step() = ").append(town).append("\n");
+            calls.append("raze(0, ").append(town).append(")\n");
+            if (town + 60 < 100) {
+                calls.append("town(0, ").append(town + 60).append(") = true\n");
+            }
+        }
+        calls.append("ofWalk(3) = 4131\nstep() = 99\nofWalk(3) = 4130\nofWalk(2) = 100\nrowLook(true) = 5\n");
+        calls.append("40 times rowTake(true)\nofWalk(3) = 4090\n");
+        Script.play("section 5: the longest row that can be", calls.toString());
     }
 }
