@@ -14,6 +14,8 @@ public final class ModelRuns {
     private static long seed;
     private static int wrong = 0;
     private static int compared = 0;
+    /** Whether the few towns of a run have the greatest numbers instead of the smallest ones. */
+    private static boolean isHigh;
 
     private static int any(int bound) {
         seed = seed * 6364136223846793005L + 1442695040888963407L;
@@ -46,6 +48,7 @@ public final class ModelRuns {
 
     private static void oneRun(int run, int towns, int longest) throws Exception {
         seed = 77L + run * 1000003L;
+        isHigh = run % 4 == 3;
         Mapgraph x = new Mapgraph();
         Model y = new Model();
         StringBuilder told = new StringBuilder();
@@ -107,7 +110,13 @@ public final class ModelRuns {
         if (towns > 20) {
             return any(100);
         }
-        return any(8) == 0 ? 99 - any(2) : any(towns + 2) * 3 % 97;
+        int number = any(8) == 0 ? 99 - any(2) : any(towns + 2) * 3 % 97;
+        return isHigh ? 99 - number : number;
+    }
+
+    private static int firstOf(int towns) {
+        int first = any(towns) * 3;
+        return isHigh ? 99 - first : first;
     }
 
     private static Object[] arguments(Method m, int towns, int longest, Model y) {
@@ -123,7 +132,7 @@ public final class ModelRuns {
         int many = any(5) == 0 ? -1 : any(7) == 0 ? 1 : any(60) + 1;
         switch (m.getName()) {
             case "settle":
-                a[1] = any(20) == 0 ? any(2) * 101 - 1 : towns > 20 ? any(50) : any(towns) * 3;
+                a[1] = any(20) == 0 ? any(2) * 101 - 1 : towns > 20 ? any(50) : firstOf(towns);
                 a[2] = towns > 20 ? many : any(12) == 0 ? any(2) * 61 : any(3) + 1;
                 a[3] = any(12) == 0 ? any(2) * 10 : towns > 20 ? 1 + any(3) : 3;
                 break;

@@ -15,7 +15,8 @@ public final class SoundInside {
             lines(which);
             lengths(which);
             manyLines(which);
-            distances(which);
+            distances(which, 2);
+            distances(which, 98);
             tree(which);
             keys(which);
             oddWalk(which);
@@ -50,16 +51,15 @@ public final class SoundInside {
         Check.due(what + " is sound", x.isSound(), false);
     }
 
-    /** No bound is passed: numbers of 0 to 99, all unlike, at most 60. The towns 0 and 99 have no lines. */
+    /** No bound is passed: numbers of 0 to 99, all unlike, at most 60. Nothing else is told of towns without lines. */
     private static void towns(String which) throws Exception {
-        int[][] bad = {{0, -1}, {0, 1}, {6, 4}, {6, 5}, {6, 100}};
+        int[][] bad = {{0, -1}, {0, 2}, {4, 3}, {4, 4}, {4, 100}};
         for (int[] bend : bad) {
-            begin(which, false);
-            x.town(which.equals("left") ? 0 : 1, 0);
-            x.town(which.equals("left") ? 0 : 1, 99);
-            Check.due("seven towns are sound", x.isSound(), true);
-            heldOf(inside(map, "towns"))[bend[0]] = bend[1];
-            tells("the town " + bend[1] + " beside 1 to 5");
+            x = new Mapgraph();
+            x.settle(which.equals("left") ? 0 : 1, 1, 5, 1);
+            Check.due("five towns are sound", x.isSound(), true);
+            heldOf(inside(inside(x, which), "towns"))[bend[0]] = bend[1];
+            tells("the town " + bend[1] + " instead of the town " + (bend[0] + 1));
         }
         begin(which, false);
         int[] many = new int[61];
@@ -116,23 +116,24 @@ public final class SoundInside {
     }
 
     /** A line of length 0 that is found only where all are looked at: neither flow nor cut are changed by it. */
-    private static void distances(String which) throws Exception {
+    private static void distances(String which, int to) throws Exception {
         x = new Mapgraph();
         int number = which.equals("left") ? 0 : 1;
         x.open(number, true);
-        x.settle(number, 1, 3, 1);
-        x.line(number, 1, 2, 0);
-        x.line(number, 3, 1, 7);
-        x.line(number, 3, 2, 8);
+        x.town(number, 1);
+        x.settle(number, to, 2, 1);
+        x.line(number, 1, to, 0);
+        x.line(number, to + 1, 1, 7);
+        x.line(number, to + 1, to, 8);
         Check.due("three directed lines are sound", x.isSound(), true);
         map = inside(x, which);
         int[] pairs = heldOf(inside(inside(map, "arcs"), "pairs"));
         int[] lengths = heldOf(inside(inside(map, "arcs"), "lengths"));
-        pairs[0] = 302;
-        pairs[2] = 102;
-        lengths[0] = 8;
+        pairs[2] = pairs[0];
+        pairs[0] = (to + 1) * 100 + to;
         lengths[2] = 0;
-        tells("a distance that a line makes less");
+        lengths[0] = 8;
+        tells("a distance to " + to + " that a line makes less");
     }
 
     /** The least tree is that of the lines; only its own lines may be shorter than others of their tree way. */
@@ -144,8 +145,10 @@ public final class SoundInside {
         heldOf(inside(arcs, "lengths"))[0] = 14;
         tells("a tree line that is longer than one beside the tree");
         begin(which, false);
+        long digest = x.digest();
         setSize(inside(inside(inside(map, "tree"), "arcs"), "pairs"), 7);
         tells("a tree that does not join a part");
+        Check.due("digest of what is not sound, alike in all else", x.digest(), digest - 1);
     }
 
     private static void keys(String which) throws Exception {

@@ -11,6 +11,7 @@ public final class TreeBounds {
         oddWhicheverWay();
         depths();
         colours();
+        greatNumbers();
         noMap();
         Check.end();
     }
@@ -392,6 +393,40 @@ public final class TreeBounds {
                 ofTown(0, 1, 5) = 0
                 ofTown(0, 1, 6) = 2
                 ofTown(0, 1, 7) = 0
+                """);
+    }
+
+    private static void greatNumbers() {
+        Script.play("3: parts of the greatest numbers alone, one of them not even", """
+                settle(0, 94, 6, 1) = 6
+                line(0, 97, 98, 3) = -1
+                line(0, 98, 99, 2) = -1
+                line(0, 94, 96, 1) = -1
+                ofMap(0, 6) = 3
+                ofMap(0, 7) = 3
+                ofTown(0, 99, 7) = 0
+                keys(0, false) = "98"
+                line(0, 99, 97, 1) = -1
+                ofMap(0, 6) = 3
+                ofMap(0, 7) = 2
+                ofTown(0, 97, 7) = -1
+                ofTown(0, 98, 7) = -1
+                ofTown(0, 99, 7) = -1
+                ofTown(0, 94, 7) = 0
+                ofTown(0, 95, 7) = 0
+                ofTown(0, 96, 7) = 1
+                ofTown(0, 99, 5) = 97
+                ofTown(0, 99, 6) = 1
+                ofTown(0, 99, 8) = 5
+                ofTown(0, 99, 9) = 3
+                ofTown(0, 99, 10) = 98
+                odd(0) = "98-97-99"
+                treeLines(0) = "94-96 97-99 98-99"
+                treeWay(0, 97, 98) = "97-99-98"
+                treeMost(0, 97, 98) = 2
+                keys(0, true) = "94-96"
+                keys(0, false) = ""
+                isSound() = true
                 """);
     }
 
